@@ -9,6 +9,7 @@ final class ChangesTest {
         snapshot();
         snapshotLeavesOut();
         snapshotStaysWhenChangesAreUndone();
+        placesThatWereUsedAgain();
         Check.finish();
     }
 
@@ -225,5 +226,47 @@ final class ChangesTest {
         Check.due("undo()", x.undo(), 2);
         Check.due("back()", x.back(), -3);
         Check.due("reason()", x.reason(), -5);
+    }
+
+    /** What was told, undone and told anew in another way is as it was when the snapshot comes back. */
+    private static void placesThatWereUsedAgain() {
+        BreweryCellar x = new BreweryCellar();
+        x.brew(0, 1, 0);
+        x.lose(0, 1, 1);
+        x.brew(1, 900, 500);
+        x.clean(0);
+        x.rate(0, 400, 100);
+        x.order(1, 30, 100, 1000);
+        x.fill(1, 0);
+        x.image();
+        long before = mark(x);
+        for (int i = 0; i < 5; i++) {
+            x.back();
+        }
+        Check.due("count(1)", x.count(1), 1);
+        x.pass(7);
+        x.brew(2, 800, 600);
+        x.clean(0);
+        x.rate(1, 300, 900);
+        x.order(2, 40, 200, 900);
+        x.pass(1);
+        x.fill(2, 0);
+        Check.due("ofTank(0, 4)", x.ofTank(0, 4), 9);
+        Check.due("ofOrder(0, 6)", x.ofOrder(0, 6), 2160);
+        Check.due("undo()", x.undo(), 0);
+        Check.due("the state after undo()", mark(x), before);
+        Check.due("ofTank(0, 4)", x.ofTank(0, 4), 2);
+        Check.due("ofBatch(1, 0)", x.ofBatch(1, 0), 500);
+        Check.due("ofBatch(1, 5)", x.ofBatch(1, 5), 0);
+        Check.due("ofOrder(0, 0)", x.ofOrder(0, 0), 1);
+        Check.due("ofOrder(0, 1)", x.ofOrder(0, 1), 30);
+        Check.due("ofOrder(0, 2)", x.ofOrder(0, 2), 100);
+        Check.due("ofOrder(0, 3)", x.ofOrder(0, 3), 1000);
+        Check.due("ofOrder(0, 6)", x.ofOrder(0, 6), 150);
+        Check.due("excise(1)", x.excise(1), 150);
+        Check.due("excise(3)", x.excise(3), 0);
+        Check.due("holds(0, 399)", x.holds(0, 399), -5);
+        Check.due("holds(0, 400)", x.holds(0, 400), 0);
+        Check.due("entry(2, 3)", x.entry(2, 3), 900);
     }
 }

@@ -54,6 +54,11 @@ final class ExciseTest {
         Check.due("holds(10, 599)", x.holds(10, 599), 3);
         Check.due("holds(9999, 500)", x.holds(9999, 500), 3);
         Check.due("holds(9999, 499)", x.holds(9999, 499), 5);
+        BreweryCellar y = new BreweryCellar();
+        y.rate(5, 500, 1);
+        y.rate(9, 400, 1);
+        y.rate(4, 500, 1);
+        Check.due("holds(9, 500)", y.holds(9, 500), 0);
     }
 
     /** A cellar in which 100 litres of the strength 500 are filled on the day 5 and again on the day 10. */
@@ -123,5 +128,13 @@ final class ExciseTest {
         Check.due("back()", x.back(), 5);
         sums(x, 1000, 1500, -500, 1000);
         Check.due("reason()", x.reason(), -5);
+        BreweryCellar y = new BreweryCellar();
+        y.brew(0, 1, 1);
+        y.order(0, 1, 0, 2000);
+        y.fill(0, 0);
+        y.rate(0, 0, 1);
+        Check.due("correct() of 1", y.correct(), 1);
+        y.rate(0, 0, 0);
+        Check.due("correct() of -1", y.correct(), 2);
     }
 }

@@ -173,6 +173,11 @@ final class OrdersTest {
         x.order(0, 51, 0, 2000);
         Check.due("ofOrder(2, 5)", x.ofOrder(2, 5), 0);
         Check.due("ofOrder(3, 5)", x.ofOrder(3, 5), -5);
+        BreweryCellar y = new BreweryCellar();
+        y.brew(0, 50, 500);
+        y.brew(1, 90, 500);
+        y.order(0, 40, 0, 2000);
+        Check.due("ofOrder(0, 5)", y.ofOrder(0, 5), 0);
     }
 
     private static void planReckonsOnward() {

@@ -87,6 +87,11 @@ final class RecordsTest {
         for (int what = 0; what < due.length; what++) {
             Check.due("account(" + what + ")", x.account(what), due[what]);
         }
+        x.back();
+        Check.due("account(11)", x.account(11), 3);
+        Check.due("account(12)", x.account(12), 61);
+        x.back();
+        Check.due("account(12)", x.account(12), 161);
         Check.due("account(-1)", x.account(-1), Long.MIN_VALUE);
         Check.due("account(13)", x.account(13), Long.MIN_VALUE);
     }

@@ -198,6 +198,12 @@ final class TanksTest {
         Check.due("transfer(0, 1, 599)", y.transfer(0, 1, 599), 597);
         Check.due("account(3)", y.account(3), 3);
         Check.due("transfer(0, 1, 1)", y.transfer(0, 1, 1), 1);
+        BreweryCellar z = new BreweryCellar();
+        z.setLoss(1);
+        z.brew(0, 1000, 5);
+        Check.due("transfer(0, 1, 999)", z.transfer(0, 1, 999), 999);
+        z.back();
+        Check.due("transfer(0, 1, 1000)", z.transfer(0, 1, 1000), 999);
     }
 
     private static void lose() {
@@ -340,6 +346,8 @@ final class TanksTest {
         }
         Check.due("ofBatch(1, 5)", x.ofBatch(1, 5), 4);
         Check.due("ofBatch(1, 6)", x.ofBatch(1, 6), 2);
+        x.transfer(1, 4, 39);
+        Check.due("ofBatch(1, 6) with one litre left", x.ofBatch(1, 6), 2 + 16);
         Check.due("ofBatch(0, -1)", x.ofBatch(0, -1), -1);
         Check.due("ofBatch(0, 7)", x.ofBatch(0, 7), -1);
         Check.due("ofBatch(2, 0)", x.ofBatch(2, 0), -1);
