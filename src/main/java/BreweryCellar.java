@@ -1082,21 +1082,21 @@ public final class BreweryCellar {
             long start = other.alcohol(strengths) * oneAll * litres - wanted * scale;
             long rounding = one.sumOfStrengths(strengths) + other.sumOfStrengths(strengths);
             int found = rise == 0 ? least : (int) Math.max(least, Math.min(most, -start / rise));
-            long nearest = distance(one, other, strengths, litres, found, wanted) + 1;
+            long closest = distanceAt(one, other, strengths, litres, found, wanted) + 1;
             for (int first = least; first <= most; first++) {
-                if (Math.abs(start + rise * first) >= (nearest + rounding) * scale) {
+                if (Math.abs(start + rise * first) >= (closest + rounding) * scale) {
                     continue;
                 }
-                long distance = distance(one, other, strengths, litres, first, wanted);
-                if (distance < nearest) {
-                    nearest = distance;
+                long off = distanceAt(one, other, strengths, litres, first, wanted);
+                if (off < closest) {
+                    closest = off;
                     found = first;
                 }
             }
             return found;
         }
 
-        private long distance(Blend one, Blend other, int[] strengths, int litres, int first, long wanted) {
+        private long distanceAt(Blend one, Blend other, int[] strengths, int litres, int first, long wanted) {
             taken.take(one, first);
             long alcohol = taken.blend.alcohol(strengths);
             taken.take(other, litres - first);

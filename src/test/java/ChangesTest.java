@@ -268,5 +268,8 @@ final class ChangesTest {
         Check.due("holds(0, 399)", x.holds(0, 399), -5);
         Check.due("holds(0, 400)", x.holds(0, 400), 0);
         Check.due("entry(2, 3)", x.entry(2, 3), 900);
+        x.rate(1, 400, 999);
+        x.rate(0, 501, 999);
+        Check.due("excise(1)", x.excise(1), 150);
     }
 }

@@ -64,6 +64,17 @@ final class RecordsTest {
         x.back();
         Check.due("entry(-1, 0)", x.entry(-1, 0), 89);
         Check.due("entry(1, 3)", x.entry(1, 3), 2);
+        BreweryCellar y = new BreweryCellar();
+        y.brew(0, 1000, 500);
+        for (int i = 1; i < 80; i++) {
+            y.lose(0, 3, 1);
+        }
+        y.image();
+        y.back();
+        y.lose(0, 4, 2);
+        Check.due("entry(79, 3)", y.entry(79, 3), 4);
+        y.undo();
+        Check.due("entry(79, 3)", y.entry(79, 3), 3);
     }
 
     private static void accounts() {
