@@ -1,103 +1,81 @@
-/** Promises 28 to 30: changes that are undone, and the snapshot. */
+import java.util.List;
+import java.util.function.Supplier;
+import java.util.function.ToLongFunction;
+
+/** Changes that are undone, and the snapshot: promises 28 to 30. A test below a quotation is about that sentence. */
 final class ChangesTest {
     public static void main(String[] args) {
-        everyChangeIsUndone();
-        sixAtMost();
+        eachChangeIsUndone();
+        changesWithoutEffectAreChanges();
+        sixChangesAtMost();
+        latestFirst();
+        nothingToUndo();
         undoneChangesMakeRoom();
         refusedCallsAreNoChanges();
-        questionsAreNoChanges();
-        snapshot();
-        snapshotLeavesOut();
-        snapshotStaysWhenChangesAreUndone();
+        otherCallsAreNoChanges();
+        snapshotContainsEverythingElse();
+        laterSnapshotTakesThePlace();
+        snapshotStays();
+        withoutSnapshot();
+        noChangesAreUndoneBehindUndo();
+        snapshotLeavesOutTapeAndReason();
+        snapshotIsNotUndone();
         placesThatWereUsedAgain();
         Check.finish();
     }
 
-    /** A number that differs when something of the state does. */
-    private static long mark(BreweryCellar x) {
-        long mark = 0;
-        for (int what = 0; what < 7; what++) {
-            for (int i = 0; i < 16; i++) {
-                mark = mark * 31 + x.ofTank(i, what);
-                mark = mark * 31 + x.ofBatch(i, what);
-                mark = mark * 31 + x.ofOrder(i, what);
-                mark = mark * 31 + x.litres(what, i);
-            }
-            mark = mark * 31 + x.planned(what);
-            mark = mark * 31 + x.excise(what);
-            mark = mark * 31 + (what == 4 || what == 5 ? 0 : x.count(what));
-        }
-        for (int i = -1; i < 80; i++) {
-            for (int what = 0; what < 4; what++) {
-                mark = mark * 31 + x.entry(i, what);
-            }
-        }
-        for (int what = 0; what < 13; what++) {
-            mark = mark * 31 + x.account(what);
-        }
-        for (int i = 0; i < 50; i++) {
-            mark = mark * 31 + x.holds(i, i * 40);
-        }
-        return mark;
-    }
+    /** Every change that succeeds in the cellar Scenes.tanks(), and what it answers. */
+    private static final List<ToLongFunction<BreweryCellar>> CHANGES = List.of(
+            x -> x.size(4, 77), x -> x.brew(4, 70, 2000), x -> x.transfer(0, 4, 222), x -> x.lose(0, 33, 2),
+            x -> x.setLoss(77), x -> x.rate(1, 400, 5), x -> x.order(0, 5, 0, 1000), x -> x.drop(0),
+            x -> x.fill(0, 0), x -> x.fillAll(), x -> x.clean(2), x -> x.pass(3), x -> x.correct(), x -> x.run());
+    private static final long[] ANSWERS = {1000, 4, 221, 467, 5, 2, 3, 0, 960, 1, 5, 1, 1, 1};
 
-    private static BreweryCellar busy() {
-        BreweryCellar x = new BreweryCellar();
-        x.rate(0, 0, 500);
-        x.brew(0, 700, 500);
-        x.brew(1, 300, 900);
-        x.brew(2, 5, 100);
-        x.transfer(0, 3, 200);
-        x.transfer(1, 3, 100);
-        x.lose(2, 5, 1);
-        x.order(2, 50, 0, 2000);
-        x.order(1, 60, 0, 700);
-        x.order(0, 70, 1500, 2000);
-        x.order(0, 5, 0, 2000);
-        x.pass(1);
-        x.fill(3, 3);
-        x.rate(0, 300, 900);
-        return x;
-    }
-
-    private static int change(BreweryCellar x, int which) {
-        switch (which) {
-            case 0: return x.size(4, 77);
-            case 1: return x.brew(5, 70, 2000);
-            case 2: return x.transfer(3, 4, 222);
-            case 3: return x.lose(0, 33, 2);
-            case 4: return x.setLoss(77);
-            case 5: return x.rate(1, 400, 5);
-            case 6: return x.order(0, 5, 0, 1000);
-            case 7: return x.drop(2);
-            case 8: return x.fill(0, 0);
-            case 9: return x.fillAll();
-            case 10: return x.clean(2);
-            case 11: return x.pass(3);
-            case 12: return x.correct();
-            default:
-                x.feed(5, 'd', '1', ';', 'c', '2');
-                return x.run();
-        }
-    }
-
-    private static void everyChangeIsUndone() {
-        for (int which = 0; which < 14; which++) {
-            BreweryCellar x = busy();
-            Check.due("count(5)", x.count(5), 6);
+    /**
+     * "The successful calls of size, brew, transfer, lose, setLoss, rate, order, drop, fill, fillAll, clean, pass,
+     * correct and run are changes". "Undoes the latest change that was not undone."
+     */
+    private static void eachChangeIsUndone() {
+        for (int i = 0; i < ANSWERS.length; i++) {
+            ToLongFunction<BreweryCellar> change = CHANGES.get(i);
+            Supplier<BreweryCellar> made = i < ANSWERS.length - 1 ? Scenes::tanksWithoutText : Scenes::tanks;
+            BreweryCellar x = made.get();
             x.image();
             x.undo();
-            long before = mark(x);
-            Check.holds("change " + which + " is done", change(x, which) >= 0);
-            Check.due("count(5) after change " + which, x.count(5), 1);
-            Check.holds("change " + which + " is seen", mark(x) != before);
-            Check.due("back() after change " + which, x.back(), 0);
-            Check.due("the state after undoing change " + which, mark(x), before);
-            Check.due("back() without a change", x.back(), -3);
+            Check.due("change " + i, change.applyAsLong(x), ANSWERS[i]);
+            Check.due("count(5) after change " + i, x.count(5), 1);
+            BreweryCellar y = Scenes.tanksWithoutText();
+            y.image();
+            y.undo();
+            Check.holds("change " + i + " is seen", !Twins.seen(x).equals(Twins.seen(y)));
+            Check.due("back() after change " + i, x.back(), 0);
+            // The twin asked as many questions as it may, so a new one is made.
+            y = Scenes.tanksWithoutText();
+            y.image();
+            y.undo();
+            BreweryCellar z = made.get();
+            z.image();
+            z.undo();
+            change.applyAsLong(z);
+            z.back();
+            Twins.same("after change " + i + " and back()", z, y);
+            Check.due("back() without a change", z.back(), -3);
         }
     }
 
-    private static void sixAtMost() {
+    /** Changes that leave a number as it was, and those of nothing, are changes too. */
+    private static void changesWithoutEffectAreChanges() {
+        BreweryCellar x = new BreweryCellar();
+        x.size(0, 1000);
+        x.setLoss(5);
+        x.fillAll();
+        x.correct();
+        Check.due("count(5)", x.count(5), 4);
+        Check.due("back()", x.back(), 3);
+    }
+
+    /** "At most 6 of them can be undone". */
+    private static void sixChangesAtMost() {
         BreweryCellar x = new BreweryCellar();
         for (int i = 1; i <= 9; i++) {
             x.pass(1);
@@ -109,10 +87,52 @@ final class ChangesTest {
             Check.due("count(5)", x.count(5), i);
         }
         Check.due("back()", x.back(), -3);
-        Check.due("reason()", x.reason(), -5);
         Check.due("count(0)", x.count(0), 3);
+        BreweryCellar y = new BreweryCellar();
+        for (int i = 0; i < 6; i++) {
+            y.pass(1);
+        }
+        for (int i = 0; i < 6; i++) {
+            y.back();
+        }
+        Check.due("count(0) with all 6 undone", y.count(0), 0);
+        Check.due("back()", y.back(), -3);
     }
 
+    /** "The latest first." */
+    private static void latestFirst() {
+        BreweryCellar x = new BreweryCellar();
+        x.setLoss(9);
+        x.size(0, 500);
+        x.pass(4);
+        Check.due("back()", x.back(), 2);
+        Check.due("count(0)", x.count(0), 0);
+        Check.due("ofTank(0, 0)", x.ofTank(0, 0), 500);
+        Check.due("back()", x.back(), 1);
+        Check.due("ofTank(0, 0)", x.ofTank(0, 0), 1000);
+        Check.due("count(6)", x.count(6), 9);
+        Check.due("back()", x.back(), 0);
+        Check.due("count(6)", x.count(6), 5);
+    }
+
+    /** back: "STATE if there is none, without a reason." */
+    private static void nothingToUndo() {
+        Twins.unchanged("back() of a new object", BreweryCellar::new, -3, BreweryCellar::back);
+        Twins.unchanged("back() behind all changes", () -> {
+            BreweryCellar x = Scenes.tanks();
+            while (x.count(5) > 0) {
+                x.back();
+            }
+            return x;
+        }, -3, BreweryCellar::back);
+        Twins.unchanged("back() behind undo()", () -> {
+            BreweryCellar x = Scenes.tanks();
+            x.undo();
+            return x;
+        }, -3, BreweryCellar::back);
+    }
+
+    /** "Changes that were undone make room." */
     private static void undoneChangesMakeRoom() {
         BreweryCellar x = new BreweryCellar();
         for (int i = 0; i < 8; i++) {
@@ -133,6 +153,7 @@ final class ChangesTest {
         Check.due("back()", x.back(), -3);
     }
 
+    /** "A call that returns an error code leaves the state unchanged": what can be undone too. */
     private static void refusedCallsAreNoChanges() {
         BreweryCellar x = new BreweryCellar();
         for (int i = 1; i <= 7; i++) {
@@ -150,9 +171,9 @@ final class ChangesTest {
         x.fill(0, 0);
         x.clean(0);
         x.pass(0);
-        x.run();
-        x.feed(2, 'd', '0', 0, 0, 0);
-        x.run();
+        Scenes.run(x, "");
+        Scenes.run(x, "d0");
+        Scenes.run(x, "d1;d0");
         Check.due("count(5)", x.count(5), 6);
         for (int i = 6; i >= 1; i--) {
             x.back();
@@ -161,44 +182,113 @@ final class ChangesTest {
         Check.due("back()", x.back(), -3);
     }
 
-    private static void questionsAreNoChanges() {
-        BreweryCellar x = busy();
-        x.image();
-        x.undo();
-        long before = mark(x);
+    private static void otherCallsAreNoChanges() {
+        BreweryCellar x = Scenes.tanks();
+        x.back();
+        x.feed(1, 'x', 0, 0, 0, 0);
         x.mix(0, 1, 50, 600);
         x.planned(0);
         x.ofOrder(0, 5);
-        x.feed(1, 'x', 0, 0, 0, 0);
         x.image();
-        Check.due("count(5)", x.count(5), 0);
-        Check.due("the state after questions", mark(x), before);
+        Check.due("count(5)", x.count(5), 5);
+        Check.due("count(3)", x.count(3), 1);
+        Check.due("back()", x.back(), 4);
+        Check.due("ofOrder(2, 4)", x.ofOrder(2, 4), 0);
     }
 
-    private static void snapshot() {
-        BreweryCellar x = busy();
-        x.pass(4);
-        Check.due("image()", x.image(), 5);
-        Check.due("count(5)", x.count(5), 6);
-        long before = mark(x);
-        for (int round = 0; round < 2; round++) {
-            for (int which = 0; which < 14; which++) {
-                change(x, which);
-            }
-            Check.holds("the state differs", mark(x) != before);
-            Check.due("undo()", x.undo(), 5);
-            Check.due("the state after undo()", mark(x), before);
-            Check.due("count(5)", x.count(5), 0);
-            Check.due("back()", x.back(), -3);
+    /** A cellar that took a snapshot as the last thing. */
+    private static BreweryCellar taken() {
+        BreweryCellar x = Scenes.tanksWithoutText();
+        x.image();
+        return x;
+    }
+
+    /** "The snapshot contains everything but itself, the tape, the reason and the changes that can be undone." */
+    private static void snapshotContainsEverythingElse() {
+        BreweryCellar due = taken();
+        due.undo();
+        List<String> before = Twins.seen(due);
+        for (int i = 0; i < ANSWERS.length; i++) {
+            BreweryCellar x = taken();
+            CHANGES.get(i).applyAsLong(x);
+            Check.due("undo() after change " + i, x.undo(), 3);
+            Twins.same("after change " + i + " and undo()", Twins.seen(x), before);
         }
-        x.pass(2);
-        Check.due("image()", x.image(), 7);
-        x.pass(2);
-        Check.due("undo()", x.undo(), 7);
-        Check.due("count(0)", x.count(0), 7);
+        BreweryCellar x = taken();
+        for (ToLongFunction<BreweryCellar> change : CHANGES) {
+            change.applyAsLong(x);
+        }
+        Check.due("undo() after all changes", x.undo(), 3);
+        Twins.same("after all changes and undo()", Twins.seen(x), before);
     }
 
-    private static void snapshotLeavesOut() {
+    /** image: "Takes a snapshot, in place of an earlier one." "Returns the present day." */
+    private static void laterSnapshotTakesThePlace() {
+        BreweryCellar x = new BreweryCellar();
+        Check.due("image()", x.image(), 0);
+        x.pass(5);
+        Check.due("image()", x.image(), 5);
+        x.pass(2);
+        Check.due("undo()", x.undo(), 5);
+        Check.due("count(0)", x.count(0), 5);
+        BreweryCellar y = Scenes.onDay(9999).get();
+        Check.due("image() on 9999", y.image(), 9999);
+        y.setLoss(1);
+        Check.due("undo() on 9999", y.undo(), 9999);
+    }
+
+    /** undo: "Restores the snapshot, which stays." */
+    private static void snapshotStays() {
+        BreweryCellar x = new BreweryCellar();
+        x.pass(1);
+        x.pass(1);
+        Check.due("image()", x.image(), 2);
+        Check.due("back()", x.back(), 1);
+        Check.due("back()", x.back(), 0);
+        Check.due("count(0)", x.count(0), 0);
+        for (int i = 0; i < 3; i++) {
+            Check.due("undo()", x.undo(), 2);
+            Check.due("count(0)", x.count(0), 2);
+            x.pass(3);
+            x.brew(i, 5, 5);
+        }
+        Check.due("undo()", x.undo(), 2);
+        Check.due("count(1)", x.count(1), 0);
+        Check.due("undo() again at once", x.undo(), 2);
+    }
+
+    /** undo: "STATE if there is no snapshot, without a reason." */
+    private static void withoutSnapshot() {
+        Twins.unchanged("undo() of a new object", BreweryCellar::new, -3, BreweryCellar::undo);
+        Twins.unchanged("undo() without a snapshot", () -> {
+            BreweryCellar x = Scenes.brewed(50, 500);
+            x.pass(2);
+            x.clean(0);
+            return x;
+        }, -3, BreweryCellar::undo);
+        BreweryCellar y = new BreweryCellar();
+        y.image();
+        y.pass(2);
+        Check.due("undo() to a new object", y.undo(), 0);
+    }
+
+    /** undo: "No changes can be undone then." */
+    private static void noChangesAreUndoneBehindUndo() {
+        BreweryCellar x = Scenes.tanks();
+        Check.due("count(5)", x.count(5), 6);
+        x.undo();
+        Check.due("count(5) after undo()", x.count(5), 0);
+        Check.due("back() after undo()", x.back(), -3);
+        x.pass(1);
+        x.pass(1);
+        Check.due("count(5)", x.count(5), 2);
+        Check.due("back()", x.back(), 1);
+        Check.due("back()", x.back(), 0);
+        Check.due("count(0)", x.count(0), 3);
+        Check.due("back()", x.back(), -3);
+    }
+
+    private static void snapshotLeavesOutTapeAndReason() {
         BreweryCellar x = new BreweryCellar();
         x.feed(2, 'd', '5', 0, 0, 0);
         x.clean(0);
@@ -214,22 +304,20 @@ final class ChangesTest {
         Check.due("count(4)", x.count(4), 0);
     }
 
-    private static void snapshotStaysWhenChangesAreUndone() {
+    /** Taking a snapshot is no change: it stays when changes around it are undone. */
+    private static void snapshotIsNotUndone() {
         BreweryCellar x = new BreweryCellar();
-        Check.due("undo()", x.undo(), -3);
         x.pass(1);
-        x.pass(1);
-        Check.due("image()", x.image(), 2);
+        x.image();
+        x.pass(2);
         Check.due("back()", x.back(), 1);
         Check.due("back()", x.back(), 0);
-        Check.due("count(0)", x.count(0), 0);
-        Check.due("undo()", x.undo(), 2);
         Check.due("back()", x.back(), -3);
-        Check.due("reason()", x.reason(), -5);
+        Check.due("undo()", x.undo(), 1);
     }
 
-    /** What was told, undone and told anew in another way is as it was when the snapshot comes back. */
-    private static void placesThatWereUsedAgain() {
+    /** What was told, undone and told anew in another way. */
+    private static BreweryCellar toldAnew() {
         BreweryCellar x = new BreweryCellar();
         x.brew(0, 1, 0);
         x.lose(0, 1, 1);
@@ -239,11 +327,9 @@ final class ChangesTest {
         x.order(1, 30, 100, 1000);
         x.fill(1, 0);
         x.image();
-        long before = mark(x);
         for (int i = 0; i < 5; i++) {
             x.back();
         }
-        Check.due("count(1)", x.count(1), 1);
         x.pass(7);
         x.brew(2, 800, 600);
         x.clean(0);
@@ -251,12 +337,18 @@ final class ChangesTest {
         x.order(2, 40, 200, 900);
         x.pass(1);
         x.fill(2, 0);
+        return x;
+    }
+
+    private static void placesThatWereUsedAgain() {
+        BreweryCellar x = toldAnew();
+        Check.due("count(1)", x.count(1), 2);
         Check.due("ofTank(0, 4)", x.ofTank(0, 4), 9);
         Check.due("ofOrder(0, 6)", x.ofOrder(0, 6), 2160);
         Check.due("undo()", x.undo(), 0);
-        Check.due("the state after undo()", mark(x), before);
         Check.due("ofTank(0, 4)", x.ofTank(0, 4), 2);
         Check.due("ofBatch(1, 0)", x.ofBatch(1, 0), 500);
+        Check.due("ofBatch(1, 1)", x.ofBatch(1, 1), 900);
         Check.due("ofBatch(1, 5)", x.ofBatch(1, 5), 0);
         Check.due("ofOrder(0, 0)", x.ofOrder(0, 0), 1);
         Check.due("ofOrder(0, 1)", x.ofOrder(0, 1), 30);

@@ -1,13 +1,15 @@
-/** Runs of mixed calls on the program and on the reference, each answer compared, and after each run all questions. */
+/** Runs of mixed calls on the program and on the reference, each answer compared; each run ends with many questions. */
 final class RandomRunsTest {
-    private static final int RUNS = 1500;
+    private static final int RUNS = 3000;
     private static final int CALLS = 512;
+    private static final int CALLS_AHEAD_OF_THE_QUESTIONS = 400;
     private static final int MOST_ANSWERS_PRINTED = 20;
 
     private long seed;
     private BreweryCellar program;
     private Reference reference;
     private StringBuilder calls;
+    private int made;
     private int wrong = 0;
     private long compared = 0;
 
@@ -29,14 +31,17 @@ final class RandomRunsTest {
         calls = new StringBuilder();
         // Runs of one style stay with small or with great numbers, so that ties and limits both come up.
         boolean small = run % 3 == 0;
-        for (int i = 0; i < CALLS && wrong < MOST_ANSWERS_PRINTED; i++) {
+        made = 0;
+        while (made < CALLS_AHEAD_OF_THE_QUESTIONS && wrong < MOST_ANSWERS_PRINTED) {
             if (pick(100) < 60) {
                 change(small);
             } else {
                 question(small);
             }
         }
-        everyQuestion();
+        while (made < CALLS && wrong < MOST_ANSWERS_PRINTED) {
+            anyQuestion();
+        }
     }
 
     private int pick(int bound) {
@@ -70,9 +75,8 @@ final class RandomRunsTest {
 
     private void compare(String call, long got, long want) {
         compared++;
-        if (calls.length() < 200000) {
-            calls.append(call).append(' ');
-        }
+        made++;
+        calls.append(call).append(' ');
         if (got != want) {
             wrong++;
             System.out.println(call + " answered " + got + ", due is " + want);
@@ -90,7 +94,7 @@ final class RandomRunsTest {
         int k = pick(10);
         switch (pick(28)) {
             case 0: case 1: case 2: case 3:
-                for (int i = 0; i < 6 && program.ofTank(a, 2) != 0; i++) {
+                for (int i = 0; i < 6 && reference.ofTank(a, 2) != 0; i++) {
                     a = (a + 1) % 6;
                 }
                 compare("brew(" + a + "," + n + "," + s + ")", program.brew(a, n, s), reference.brew(a, n, s));
@@ -108,7 +112,7 @@ final class RandomRunsTest {
                 compare("setLoss(" + k + ")", program.setLoss(k), reference.setLoss(k));
                 break;
             case 12: {
-                int day = pick(15) == 0 ? pick(2) * 10001 - 1 : pick(program.count(0) + 5);
+                int day = pick(15) == 0 ? pick(2) * 10001 - 1 : pick(reference.count(0) + 5);
                 int money = pick(15) == 0 ? pick(2) * 10001 - 1 : pick(10000);
                 compare("rate(" + day + "," + s + "," + money + ")", program.rate(day, s, money),
                         reference.rate(day, s, money));
@@ -246,7 +250,7 @@ final class RandomRunsTest {
                 break;
             case 7: compare("planned(" + what + ")", program.planned(what), reference.planned(what)); break;
             case 8: {
-                int day = pick(program.count(0) + 8) - 1;
+                int day = pick(reference.count(0) + 8) - 1;
                 int s = strength(small);
                 compare("holds(" + day + "," + s + ")", program.holds(day, s), reference.holds(day, s));
                 break;
@@ -262,25 +266,28 @@ final class RandomRunsTest {
         }
     }
 
-    private void everyQuestion() {
-        for (int what = -2; what < 20; what++) {
-            for (int i = -1; i < 17; i++) {
-                String rest = i + "," + what + ")";
-                compare("ofTank(" + rest, program.ofTank(i, what), reference.ofTank(i, what));
-                compare("litres(" + rest, program.litres(i, what), reference.litres(i, what));
-                compare("ofBatch(" + rest, program.ofBatch(i, what), reference.ofBatch(i, what));
-                compare("ofOrder(" + rest, program.ofOrder(i, what), reference.ofOrder(i, what));
+    /** A question with a selector at an edge or anywhere. */
+    private void anyQuestion() {
+        int what = pick(20) - 2;
+        int i = pick(19) - 1;
+        String both = i + "," + what + ")";
+        switch (pick(11)) {
+            case 0: compare("ofTank(" + both, program.ofTank(i, what), reference.ofTank(i, what)); break;
+            case 1: compare("litres(" + both, program.litres(i, what), reference.litres(i, what)); break;
+            case 2: compare("ofBatch(" + both, program.ofBatch(i, what), reference.ofBatch(i, what)); break;
+            case 3: compare("ofOrder(" + both, program.ofOrder(i, what), reference.ofOrder(i, what)); break;
+            case 4: compare("planned(" + what + ")", program.planned(what), reference.planned(what)); break;
+            case 5: compare("excise(" + what + ")", program.excise(what), reference.excise(what)); break;
+            case 6: compare("account(" + what + ")", program.account(what), reference.account(what)); break;
+            case 7: compare("count(" + what + ")", program.count(what), reference.count(what)); break;
+            case 8: case 9: {
+                int entry = pick(92) - 2;
+                int part = pick(6) - 1;
+                compare("entry(" + entry + "," + part + ")", program.entry(entry, part),
+                        reference.entry(entry, part));
+                break;
             }
-            compare("planned(" + what + ")", program.planned(what), reference.planned(what));
-            compare("excise(" + what + ")", program.excise(what), reference.excise(what));
-            compare("account(" + what + ")", program.account(what), reference.account(what));
-            compare("count(" + what + ")", program.count(what), reference.count(what));
+            default: compare("reason()", program.reason(), reference.reason());
         }
-        for (int i = -2; i < 90; i++) {
-            for (int what = -1; what < 5; what++) {
-                compare("entry(" + i + "," + what + ")", program.entry(i, what), reference.entry(i, what));
-            }
-        }
-        compare("reason()", program.reason(), reference.reason());
     }
 }

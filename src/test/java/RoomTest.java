@@ -29,7 +29,7 @@ final class RoomTest {
     private static void calls(BreweryCellar x) {
         x.rate(0, 0, 100);
         x.image();
-        for (int i = 0; i < 14; i++) {
+        for (int i = 0; i < 13; i++) {
             int tank = i % 6;
             x.brew(tank, 100, 100 * i);
             x.transfer(tank, (i + 1) % 6, 60);
