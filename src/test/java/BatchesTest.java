@@ -1,6 +1,6 @@
 import java.util.Arrays;
 
-/** Batches and proportion: promises 3, 18 and 19. A test that stands below a quotation is about that sentence. */
+/** Batches and proportion: promises 3, 18 and 19. A test below a quotation is about that sentence. */
 final class BatchesTest {
     public static void main(String[] args) {
         sixteenBatchesAtMost();

@@ -289,7 +289,10 @@ final class CommandsTest {
         Check.due("reason()", z.reason(), 8);
     }
 
-    /** "If one of them is refused, or is about something that there is not or a number out of range, nothing is done." */
+    /**
+     * "If one of them is refused, or is about something that there is not or a number out of range, nothing of all is
+     * done."
+     */
     private static void nothingOfAllIsDone() {
         String done = "t0>4:200;l1:9/2;f0#0;c2;d2;";
         Check.due("run() of " + done, Scenes.run(Scenes.tanksWithoutText(), done + "t0>1:9"), 6);

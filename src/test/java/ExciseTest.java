@@ -1,4 +1,4 @@
-/** Rates and what is due: promises 7 and 23 to 25. A test that stands below a quotation is about that sentence. */
+/** Rates and what is due: promises 7 and 23 to 25. A test below a quotation is about that sentence. */
 final class ExciseTest {
     public static void main(String[] args) {
         tenRatesAtMost();

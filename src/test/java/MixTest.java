@@ -1,6 +1,6 @@
 import java.util.function.Supplier;
 
-/** Mixtures that come nearest to a strength: promise 20. A test that stands below a quotation is about that sentence. */
+/** Mixtures that come nearest to a strength: promise 20. A test below a quotation is about that sentence. */
 final class MixTest {
     public static void main(String[] args) {
         noSuchTankOrTheSame();

@@ -5,6 +5,7 @@ final class NewObjectTest {
         tanksAreClean();
         nothingElseIsThere();
         objectsAreApart();
+        all512CallsAreAnswered();
         Check.finish();
     }
 
@@ -63,5 +64,16 @@ final class NewObjectTest {
         Check.due("count(1) of another object", other.count(1), 0);
         Check.due("count(4) of another object", other.count(4), 0);
         Check.due("count(1)", one.count(1), 1);
+    }
+
+    /** "An object is used for at most 512 calls after it has been made". */
+    private static void all512CallsAreAnswered() {
+        BreweryCellar x = new BreweryCellar();
+        x.brew(0, 1000, 500);
+        for (int call = 2; call <= 510; call++) {
+            Check.due("lose(0, 1, 1) as call " + call, x.lose(0, 1, 1), 1001 - call);
+        }
+        Check.due("entry(-1, 0) as call 511", x.entry(-1, 0), 510);
+        Check.due("back() as call 512", x.back(), 5);
     }
 }

@@ -1,6 +1,6 @@
 import java.util.function.Supplier;
 
-/** Orders and fillings: promises 8 to 10 and 21. A test that stands below a quotation is about that sentence. */
+/** Orders and fillings: promises 8 to 10 and 21. A test below a quotation is about that sentence. */
 final class OrdersTest {
     public static void main(String[] args) {
         daysAreFrom0To99();

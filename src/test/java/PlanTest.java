@@ -1,10 +1,11 @@
 import java.util.function.Supplier;
 
-/** The plan of fillings: promises 11 and 22. A test that stands below a quotation is about that sentence. */
+/** The plan of fillings: promises 11 and 22. A test below a quotation is about that sentence. */
 final class PlanTest {
     public static void main(String[] args) {
         nothingIsPlanned();
         ascendingDays();
+        ordersOfPastDays();
         descendingLitres();
         ascendingNumbers();
         tankInUseAlone();
@@ -47,6 +48,14 @@ final class PlanTest {
         planned(x, 0);
         x.drop(0);
         planned(x);
+        // Orders that there are not want nothing, which a tank without strength could give.
+        BreweryCellar y = Scenes.brewed(5, 0);
+        planned(y);
+        y.order(0, 5, 1, 2000);
+        planned(y);
+        Check.due("fillAll()", y.fillAll(), 0);
+        y.order(0, 5, 0, 0);
+        planned(y, 1);
     }
 
     /** "Open orders are planned in ascending order of their days". */
@@ -62,6 +71,18 @@ final class PlanTest {
         x.order(0, 5, 0, 2000);
         x.order(1, 20, 0, 2000);
         planned(x, 1, 3, 0, 4, 5, 2);
+    }
+
+    /** "It is open until it is filled or dropped": also when the day on which it is due is over. */
+    private static void ordersOfPastDays() {
+        BreweryCellar x = Scenes.brewed(100, 500);
+        x.order(0, 10, 0, 2000);
+        x.pass(999);
+        x.order(0, 20, 0, 2000);
+        planned(x, 0, 1);
+        Check.due("ofOrder(0, 4)", x.ofOrder(0, 4), 0);
+        Check.due("fill(0, 0)", x.fill(0, 0), 0);
+        Check.due("ofOrder(0, 4)", x.ofOrder(0, 4), 1);
     }
 
     /** "Of the same day in descending order of their litres". */

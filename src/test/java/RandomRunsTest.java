@@ -49,8 +49,17 @@ final class RandomRunsTest {
         return (int) ((seed >>> 33) % bound);
     }
 
+    private int farOff() {
+        return pick(2) == 0 ? Integer.MAX_VALUE - pick(2) : Integer.MIN_VALUE + pick(2);
+    }
+
+    /** The number, or at times one that is far from all that is allowed. */
+    private int mostly(int number) {
+        return pick(100) == 0 ? farOff() : number;
+    }
+
     private int tank() {
-        return pick(40) == 0 ? pick(2) * 7 - 1 : pick(6);
+        return mostly(pick(40) == 0 ? pick(2) * 7 - 1 : pick(6));
     }
 
     private int amount(boolean small) {
@@ -59,6 +68,7 @@ final class RandomRunsTest {
             case 1: return 10000;
             case 2: return 9999;
             case 3: return -pick(5);
+            case 4: return farOff();
             default: return small ? 1 + pick(12) : 1 + pick(900);
         }
     }
@@ -69,6 +79,7 @@ final class RandomRunsTest {
             case 1: return 2001;
             case 2: return 2000;
             case 3: return 0;
+            case 4: return farOff();
             default: return small ? pick(12) : pick(2001);
         }
     }
@@ -104,22 +115,22 @@ final class RandomRunsTest {
                         reference.transfer(a, b, n));
                 break;
             case 9: case 10:
-                k = pick(20) == 0 ? pick(7) - 2 : 1 + pick(3);
+                k = mostly(pick(20) == 0 ? pick(7) - 2 : 1 + pick(3));
                 compare("lose(" + a + "," + n + "," + k + ")", program.lose(a, n, k), reference.lose(a, n, k));
                 break;
             case 11:
-                k = pick(12) == 0 ? pick(2) * 102 - 1 : pick(101);
+                k = mostly(pick(12) == 0 ? pick(2) * 102 - 1 : pick(101));
                 compare("setLoss(" + k + ")", program.setLoss(k), reference.setLoss(k));
                 break;
             case 12: {
-                int day = pick(15) == 0 ? pick(2) * 10001 - 1 : pick(reference.count(0) + 5);
-                int money = pick(15) == 0 ? pick(2) * 10001 - 1 : pick(10000);
+                int day = mostly(pick(15) == 0 ? pick(2) * 10001 - 1 : pick(reference.count(0) + 5));
+                int money = mostly(pick(15) == 0 ? pick(2) * 10001 - 1 : pick(10000));
                 compare("rate(" + day + "," + s + "," + money + ")", program.rate(day, s, money),
                         reference.rate(day, s, money));
                 break;
             }
             case 13: case 14: {
-                int days = pick(15) == 0 ? pick(2) * 101 - 1 : pick(4);
+                int days = mostly(pick(15) == 0 ? pick(2) * 101 - 1 : pick(4));
                 int least = pick(3) == 0 ? strength(small) : 0;
                 int greatest = pick(3) == 0 ? strength(small) : 2000;
                 compare("order(" + days + "," + n + "," + least + "," + greatest + ")",
@@ -127,13 +138,13 @@ final class RandomRunsTest {
                 break;
             }
             case 15:
-                k = pick(12) - 1;
+                k = mostly(pick(12) - 1);
                 if (pick(2) == 0) {
                     compare("drop(" + k + ")", program.drop(k), reference.drop(k));
                 }
                 break;
             case 16: case 17:
-                k = pick(12) - 1;
+                k = mostly(pick(12) - 1);
                 compare("fill(" + a + "," + k + ")", program.fill(a, k), reference.fill(a, k));
                 break;
             case 18:
@@ -145,7 +156,7 @@ final class RandomRunsTest {
                 compare("clean(" + a + ")", program.clean(a), reference.clean(a));
                 break;
             case 22: case 23:
-                k = pick(10) == 0 ? pick(1300) - 1 : pick(3);
+                k = mostly(pick(10) == 0 ? pick(1300) - 1 : pick(3));
                 compare("pass(" + k + ")", program.pass(k), reference.pass(k));
                 break;
             case 24:
@@ -230,7 +241,7 @@ final class RandomRunsTest {
     private void question(boolean small) {
         int a = tank();
         int b = tank();
-        int what = pick(16) - 1;
+        int what = mostly(pick(16) - 1);
         switch (pick(13)) {
             case 0: compare("reason()", program.reason(), reference.reason()); break;
             case 1: compare("ofTank(" + a + "," + what + ")", program.ofTank(a, what), reference.ofTank(a, what));
@@ -268,8 +279,8 @@ final class RandomRunsTest {
 
     /** A question with a selector at an edge or anywhere. */
     private void anyQuestion() {
-        int what = pick(20) - 2;
-        int i = pick(19) - 1;
+        int what = mostly(pick(20) - 2);
+        int i = mostly(pick(19) - 1);
         String both = i + "," + what + ")";
         switch (pick(11)) {
             case 0: compare("ofTank(" + both, program.ofTank(i, what), reference.ofTank(i, what)); break;
@@ -281,8 +292,8 @@ final class RandomRunsTest {
             case 6: compare("account(" + what + ")", program.account(what), reference.account(what)); break;
             case 7: compare("count(" + what + ")", program.count(what), reference.count(what)); break;
             case 8: case 9: {
-                int entry = pick(92) - 2;
-                int part = pick(6) - 1;
+                int entry = mostly(pick(92) - 2);
+                int part = mostly(pick(6) - 1);
                 compare("entry(" + entry + "," + part + ")", program.entry(entry, part),
                         reference.entry(entry, part));
                 break;

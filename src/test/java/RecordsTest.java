@@ -1,4 +1,4 @@
-/** The journal, the accounts and the counts: promises 26, 27 and 31. A test below a quotation is about that sentence. */
+/** Journal, accounts and counts: promises 26, 27 and 31. A test below a quotation is about that sentence. */
 final class RecordsTest {
     public static void main(String[] args) {
         numberOfEntries();

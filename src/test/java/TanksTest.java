@@ -1,4 +1,4 @@
-/** Days and tanks: promises 2, 12, 13 and 17. A test that stands below a quotation is about that sentence. */
+/** Days and tanks: promises 2, 12, 13 and 17. A test below a quotation is about that sentence. */
 final class TanksTest {
     public static void main(String[] args) {
         dayIsZeroAtFirstAndAtMost9999();

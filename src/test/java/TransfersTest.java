@@ -1,4 +1,4 @@
-/** Transfers and losses: promises 4 to 6. A test that stands below a quotation is about that sentence. */
+/** Transfers and losses: promises 4 to 6. A test below a quotation is about that sentence. */
 final class TransfersTest {
     public static void main(String[] args) {
         noSuchTankOrTheSame();
@@ -264,7 +264,7 @@ final class TransfersTest {
         Check.due("lose(0, 499, 3)", Scenes.tanks().lose(0, 499, 3), 1);
     }
 
-    /** "The transfer loss is from 0 to 100, at first 5." setLoss: "Returns the one before; BAD if it is out of range." */
+    /** "The transfer loss is from 0 to 100, at first 5." "Returns the one before; BAD if it is out of range." */
     private static void transferLossIsFrom0To100() {
         BreweryCellar x = new BreweryCellar();
         Check.due("count(6)", x.count(6), 5);
