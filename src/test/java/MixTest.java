@@ -16,6 +16,7 @@ final class MixTest {
         amongAllWholeNumbers();
         allOfOneTank();
         proportionCounts();
+        portionsFarOffTheLine();
         mixingIsAskedAlone();
         manyBatches();
         Check.finish();
@@ -208,6 +209,23 @@ final class MixTest {
         Check.due("mix(0, 2, 4, 138)", x.mix(0, 2, 4, 138), 2);
         Check.due("mix(2, 0, 4, 137)", x.mix(2, 0, 4, 137), 3);
         Check.due("mix(2, 0, 4, 138)", x.mix(2, 0, 4, 138), 2);
+    }
+
+    /** Portions that are the nearest, though without whole litres they would lie further off than others. */
+    private static void portionsFarOffTheLine() {
+        BreweryCellar x = new BreweryCellar();
+        x.brew(0, 1, 2000);
+        x.brew(1, 9, 0);
+        x.transfer(1, 0, 9);
+        x.brew(2, 10, 0);
+        // Up to 4 litres of the tank 0 have nothing of the batch 0, and from 5 on they have its litre.
+        Check.due("mix(0, 2, 10, 170)", x.mix(0, 2, 10, 170), 5);
+        Check.due("mix(2, 0, 10, 30)", x.mix(2, 0, 10, 30), 6);
+        Check.due("mix(0, 2, 10, 30)", x.mix(0, 2, 10, 30), 0);
+        Check.due("mix(2, 0, 10, 170)", x.mix(2, 0, 10, 170), 0);
+        Check.due("mix(0, 2, 10, 101)", x.mix(0, 2, 10, 101), 5);
+        Check.due("mix(0, 2, 10, 100)", x.mix(0, 2, 10, 100), 0);
+        Check.due("mix(0, 2, 10, 99)", x.mix(0, 2, 10, 99), 0);
     }
 
     private static void mixingIsAskedAlone() {
