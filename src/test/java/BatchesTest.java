@@ -29,15 +29,20 @@ final class BatchesTest {
         BreweryCellar x = new BreweryCellar();
         for (int i = 0; i < 16; i++) {
             Check.due("count(1)", x.count(1), i);
-            Check.due("batch " + i, x.brew(0, 10, i), i);
-            x.lose(0, 10, 1);
+            Check.due("batch " + i, x.brew(0, 10 + i, i), i);
+            x.lose(0, 10 + i, 1);
             x.clean(0);
             x.pass(2);
         }
         Check.due("a 17th batch", x.brew(0, 10, 5), -4);
-        Check.due("ofBatch(0, 0)", x.ofBatch(0, 0), 0);
-        Check.due("ofBatch(15, 0)", x.ofBatch(15, 0), 15);
-        Check.due("ofBatch(15, 4)", x.ofBatch(15, 4), 10);
+        for (int i = 0; i < 16; i++) {
+            int[] due = {i, 10 + i, 0, 0, 10 + i, 2 * i, 0};
+            for (int what = 0; what < due.length; what++) {
+                Check.due("ofBatch(" + i + ", " + what + ")", x.ofBatch(i, what), due[what]);
+            }
+            Check.due("the day of its entry", x.entry(2 * i, 0), 2 * i);
+            Check.due("the litres of its entry", x.entry(2 * i, 3), 10 + i);
+        }
         Check.due("reason()", x.reason(), -5);
         Twins.unchanged("a 17th batch", Scenes::sixteenBatches, -4, c -> c.brew(2, 10, 5));
         Twins.unchanged("a 17th batch of the least", Scenes::sixteenBatches, -4, c -> c.brew(5, 1, 0));

@@ -93,6 +93,7 @@ final class CommandsTest {
             int number = n;
             BreweryCellar x = tapeOf(60 - n).get();
             Check.due("feed(" + n + ", ..) of " + (60 - n), x.feed(n, '0', '0', '0', '0', '0'), 60);
+            Check.due("count(4)", x.count(4), 60);
             for (int length = 61 - n; length <= 60; length++) {
                 Twins.unchanged("feed(" + n + ", ..) of " + length, tapeOf(length), -4,
                         c -> c.feed(number, '0', '0', '0', '0', '0'));
@@ -361,6 +362,10 @@ final class CommandsTest {
         refusedCommand("l0:101/1", 3);
         refusedCommand("f8#9", 1);
         refusedCommand("f1#2", 5);
+        refusedCommand("f0#10", 5);
+        refusedCommand("f0#0100", 5);
+        refusedCommand("f0#1000", 5);
+        refusedCommand("f0#1001", 5);
         refusedCommand("f0#9999", 5);
         refusedCommand("f1#0", 2);
         refusedCommand("f0#0", 3);

@@ -14,6 +14,7 @@ final class ExciseTest {
         holdsIsAskedWithinItsRange();
         withoutRateNothingIsDue();
         dutyIsRoundedUp();
+        alcoholOfABlendCounts();
         eachDutyIsRoundedByItself();
         dayOfTheFillingCounts();
         strengthOfWhatWasFilledCounts();
@@ -210,6 +211,31 @@ final class ExciseTest {
             Check.due("the duty " + filling, x.fill(0, 0), one[3]);
             Check.due("ofOrder(0, 6) " + filling, x.ofOrder(0, 6), one[3]);
             sums(x, one[3], one[3], 0, 0);
+        }
+    }
+
+    /** "The duty on a filling is its alcohol times the amount": not its litres times the strength rounded down. */
+    private static void alcoholOfABlendCounts() {
+        // 1 of 0 and 2 of 100 have an alcohol of 200, and a strength of 66.67.
+        BreweryCellar x = Scenes.blended(1, 2);
+        x.rate(0, 0, 9999);
+        x.order(0, 3, 66, 66);
+        Check.due("fill(5, 0)", x.fill(5, 0), 200);
+        sums(x, 200, 200, 0, 0);
+        x.back();
+        Check.due("fillAll()", x.fillAll(), 1);
+        Check.due("ofOrder(0, 6)", x.ofOrder(0, 6), 200);
+        x.back();
+        Check.due("run()", Scenes.run(x, "f5#0"), 1);
+        sums(x, 200, 200, 0, 0);
+        x.rate(0, 66, 5000);
+        sums(x, 200, 100, 0, -100);
+        // 99 of 0 and 1 of 100 have a strength of 1, and 100 of 0 and 1 of 100 one of 0, but not no alcohol.
+        for (int litres : new int[] {99, 100}) {
+            BreweryCellar y = Scenes.blended(litres, 1);
+            y.rate(0, 0, 9999);
+            y.order(0, litres + 1, 0, 2000);
+            Check.due("fill(5, 0) of " + litres + " and 1", y.fill(5, 0), 100);
         }
     }
 

@@ -14,6 +14,7 @@ final class PlanTest {
         lowestOfSeveralTanks();
         whatAnOrderTakesIsGone();
         strengthsAsIfEachOrderWasFilled();
+        tenOrdersOfOneBlend();
         orderWithoutTankIsNotPlanned();
         numbersAmongThePlanned();
         planChangesNothing();
@@ -202,6 +203,24 @@ final class PlanTest {
         Check.due("fillAll()", x.fillAll(), 2);
         Check.due("ofTank(0, 1)", x.ofTank(0, 1), 2);
         Check.due("ofOrder(1, 4)", x.ofOrder(1, 4), 0);
+    }
+
+    /** The same with 31 litres of a blend: every 3 litres that are taken out leave another strength. */
+    private static void tenOrdersOfOneBlend() {
+        int[] strengths = {116, 117, 120, 122, 121, 125, 123, 130, 128, 150};
+        BreweryCellar x = Scenes.blended(6, 14, 11);
+        for (int strength : strengths) {
+            x.order(0, 3, strength, strength);
+        }
+        planned(x, 0, 1, 2, 3, 4, 5, 6, 7, 8, 9);
+        tanksOfOrders(x, 5, 5, 5, 5, 5, 5, 5, 5, 5, 5);
+        Check.due("fillAll()", x.fillAll(), 10);
+        Check.due("litres(5, 2)", x.litres(5, 2), 1);
+        Check.due("ofTank(5, 1)", x.ofTank(5, 1), 1);
+        // Without the first order nothing leaves the strength that the second one wants.
+        x.back();
+        x.drop(0);
+        planned(x);
     }
 
     /** "An order without such a tank is not planned": those behind it are. */

@@ -11,6 +11,7 @@ final class RecordsTest {
         whatMakesNoEntry();
         accounts();
         accountsOfNothing();
+        accountsOfTheMostThatThereCanBe();
         accountsAddUp();
         selectorsOfAccounts();
         counts();
@@ -45,6 +46,7 @@ final class RecordsTest {
     /** "Each of these makes an entry with a day, a kind, a tank and litres". */
     private static void eachKindOfEntry() {
         BreweryCellar x = new BreweryCellar();
+        x.pass(7);
         x.brew(3, 400, 500);
         x.pass(2);
         x.transfer(3, 1, 200);
@@ -55,13 +57,13 @@ final class RecordsTest {
         x.order(0, 30, 0, 2000);
         x.pass(1);
         x.fillAll();
-        entry(x, 0, 0, 0, 3, 400);
-        entry(x, 1, 2, 1, 3, 200);
-        entry(x, 2, 2, 3, 3, 1);
-        entry(x, 3, 2, 2, 1, 199);
-        entry(x, 4, 3, 3, 1, 9);
-        entry(x, 5, 3, 4, 1, 20);
-        entry(x, 6, 4, 4, 1, 30);
+        entry(x, 0, 7, 0, 3, 400);
+        entry(x, 1, 9, 1, 3, 200);
+        entry(x, 2, 9, 3, 3, 1);
+        entry(x, 3, 9, 2, 1, 199);
+        entry(x, 4, 10, 3, 1, 9);
+        entry(x, 5, 10, 4, 1, 20);
+        entry(x, 6, 11, 4, 1, 30);
         Check.due("entry(-1, 0)", x.entry(-1, 0), 7);
     }
 
@@ -216,6 +218,35 @@ final class RecordsTest {
         for (int what = 0; what < due.length; what++) {
             Check.due("account(" + what + ") when all is gone", x.account(what), due[what]);
         }
+    }
+
+    /** 16 batches and 10 orders of the greatest litres, the greatest strength and the greatest duty. */
+    private static void accountsOfTheMostThatThereCanBe() {
+        BreweryCellar x = new BreweryCellar();
+        x.size(0, 9999);
+        x.rate(0, 0, 9999);
+        for (int i = 0; i < 10; i++) {
+            x.order(0, 9999, 0, 2000);
+        }
+        Check.due("account(11)", x.account(11), 10);
+        Check.due("account(12)", x.account(12), 99990);
+        for (int i = 0; i < 16; i++) {
+            x.brew(0, 9999, 2000);
+            if (i < 10) {
+                x.fill(0, i);
+            } else {
+                x.lose(0, 9999, i % 3 + 1);
+            }
+            x.clean(0);
+            x.pass(2);
+        }
+        long[] due = {159984, 0, 99990, 0, 19998, 19998, 19998, 319968000, 0, 199980000, 119988000, 0, 0};
+        for (int what = 0; what < due.length; what++) {
+            Check.due("account(" + what + ") of the most", x.account(what), due[what]);
+        }
+        Check.due("excise(0)", x.excise(0), 199960010);
+        Check.due("excise(1)", x.excise(1), 199960010);
+        Check.due("entry(-1, 0)", x.entry(-1, 0), 32);
     }
 
     /** The class keeps "accounts that add up". */

@@ -1,3 +1,5 @@
+import java.util.Arrays;
+
 /** Days and tanks: promises 2, 12, 13 and 17. A test below a quotation is about that sentence. */
 final class TanksTest {
     public static void main(String[] args) {
@@ -114,9 +116,17 @@ final class TanksTest {
         Check.due("ofTank(0, 0)", x.ofTank(0, 0), 500);
         Check.due("size(1, 300) of a full tank", x.size(1, 300), 300);
         Check.due("size(2, 1) of a dirty tank", x.size(2, 1), 1000);
+        Check.due("ofTank(2, 0)", x.ofTank(2, 0), 1);
+        Check.due("ofTank(2, 2)", x.ofTank(2, 2), 2);
         Check.due("size(3, 1) of a tank being cleaned", x.size(3, 1), 1000);
+        Check.due("ofTank(3, 0)", x.ofTank(3, 0), 1);
+        Check.due("ofTank(3, 2)", x.ofTank(3, 2), 3);
         Check.due("ofTank(3, 4)", x.ofTank(3, 4), 5);
         Check.due("reason()", x.reason(), 7);
+        Twins.refused("size(5, 59) of a blend", () -> Scenes.blended(10, 20, 30), 4, c -> c.size(5, 59));
+        BreweryCellar y = Scenes.blended(10, 20, 30);
+        Check.due("size(5, 60) of a blend", y.size(5, 60), 9999);
+        Check.due("ofTank(5, 6)", y.ofTank(5, 6), 0);
     }
 
     /** "Returns the size before". */
@@ -292,6 +302,9 @@ final class TanksTest {
         // 13 litres are left: none of the batch 0, one of the batch 1, 12 of the batch 2.
         Check.due("litres(5, 0)", x.litres(5, 0), 0);
         Check.due("ofTank(5, 5)", x.ofTank(5, 5), 2);
+        int[] one = new int[16];
+        Arrays.fill(one, 1);
+        Check.due("ofTank(5, 5) of all batches", Scenes.blended(one).ofTank(5, 5), 16);
     }
 
     /** "6 the litres that there is room for"; "at most up to its size". */
