@@ -379,5 +379,17 @@ final class OrdersTest {
         BreweryCellar y = ordered(10, 500, 500).get();
         y.fill(0, 0);
         Check.due("ofOrder(0, 6) without a rate", y.ofOrder(0, 6), 0);
+        // The duty of each one, in whatever order they are filled.
+        BreweryCellar z = Scenes.brewed(100, 500);
+        z.rate(0, 0, 100);
+        for (int order = 0; order < 4; order++) {
+            z.order(0, 10 + 2 * order, 0, 2000);
+        }
+        z.fill(0, 2);
+        z.fill(0, 1);
+        int[] due = {-5, 60, 70, -5};
+        for (int order = 0; order < due.length; order++) {
+            Check.due("ofOrder(" + order + ", 6) of four", z.ofOrder(order, 6), due[order]);
+        }
     }
 }
